@@ -604,10 +604,10 @@ public final class SnowOwed {
         then.warm = warm;
         int together = 0;
         for (int i = 0; i < row.places; i++) {
+            then.passDays(i == 0 ? 0 : 1);
             if (row.numbers[i] != NONE) {
                 together += Math.abs(then.ball.weight - row.numbers[i]);
             }
-            then.passDay();
         }
         return together;
     }
@@ -1042,6 +1042,7 @@ public final class SnowOwed {
         private int codeCount = 0;
         private int atoms = 0;
         private int key = 0;
+        /** Those of THE TAPE; any row will do until one is read, so that it is never null. */
         private int[] bytes = codes;
         private int length = 0;
         /** The word or sign at hand: what it is, its first byte, the place behind it. */

@@ -159,12 +159,20 @@ public final class BallTest {
         x.seed(seedFor(3, 10));
         x.days(1);
         Due.due("less", x.ball(0), 6);
+        x.pack(1, 4);
+        x.seed(seedFor(3, 10));
+        x.days(1);
+        Due.due("a kilo is a layer still", x.layer(1, 1), 1);
+        x.seed(seedFor(1, 10));
+        x.days(1);
+        Due.due("no kilo is none", x.ball(3), 1);
+        x.at(1);
         x.rule(0, 99);
         x.seed(seedFor(99, 100));
         x.days(1);
         Due.due("nothing is left", x.ball(0), 0);
         Due.due("no layer", x.ball(3), 0);
-        Due.due("gone is what was there", x.ball(4), 17);
+        Due.due("gone is what was there", x.ball(4), 21);
         Due.due("out at 1", x.thing(0), 101);
         int z = x.count(10);
         x.days(1);
@@ -249,6 +257,13 @@ public final class BallTest {
         Due.due("gate 0 it left", x.told(0, 3), 0);
         Due.due("gate 1", x.told(1, 3), 0);
         Due.due("gate 2 is as wide as the ball", x.told(2, 2), 8);
+        x.rule(2, -2);
+        Due.due("one back", x.days(1), 1);
+        Due.due("at 1", x.ball(2), 1);
+        Due.due("one more", x.days(1), 1);
+        Due.due("at 0", x.ball(2), 0);
+        Due.due("and round", x.days(1), 0);
+        Due.due("at 3", x.ball(2), 3);
     }
 
     private static void oneYard() {
@@ -278,6 +293,12 @@ public final class BallTest {
         Due.due("999 at most", x.told(0, 1), 999);
         Due.due("fall", x.told(1, 1), 18);
         Due.due("of all", x.count(6), 1017);
+        SnowOwed ten = new SnowOwed();
+        for (int i = 0; i < 10; i++) {
+            ten.yard(5, 10, 9);
+        }
+        ten.days(1);
+        Due.due("on ten yards", ten.count(6), 130);
     }
 
     private static void sizes() {

@@ -27,12 +27,14 @@ public final class SheetsTest {
         Due.due("24 places", x.sheet(0, 1, 24), 24);
         Due.due("no places", x.sheet(3, 0, 0), 0);
         Due.due("place 23", x.mark(0, 23, 5), 1);
+        Due.due("place 0", x.mark(0, 0, 5), 1);
         Due.due("no place 0", x.mark(3, 0, 5), Due.INDEX);
         x.lay(0, 2, 0);
         Due.due("item", x.item(0, 23), 5);
         x.sheet(0, 1, 24);
         x.lay(0, 2, 0);
         Due.due("all 0 again", x.item(0, 23), 0);
+        Due.due("the first too", x.item(0, 0), 0);
         Due.due("refused, so it stays", x.sheet(0, 0, -1), Due.SIZE);
         Due.due("a place is there", x.mark(0, 23, 5), 1);
         Due.due("missing, n any", x.sheet(0, -1, 77), 0);
@@ -93,6 +95,12 @@ public final class SheetsTest {
         Due.due("no more otherwise", x.pour(0), 0);
         x.sheet(1, 0, 24);
         Due.due("more places than yards", x.pour(1), 5);
+        SnowOwed ten = new SnowOwed();
+        for (int i = 0; i < 10; i++) {
+            ten.yard(0, 1 + i, 1);
+        }
+        ten.sheet(0, 0, 24);
+        Due.due("ten yards", ten.pour(0), 10);
     }
 
     private static void readings() {
@@ -115,6 +123,8 @@ public final class SheetsTest {
         Due.due("numbers alone", x.reads(0), Due.NONE);
         x.mark(0, 1, 8);
         Due.due("not those kilos", x.reads(0), 1);
+        x.mark(0, 0, 7);
+        Due.due("the first place", x.reads(0), 0);
         x.mark(0, 0, Due.NONE);
         Due.due("the first of numbers", x.reads(0), 1);
     }

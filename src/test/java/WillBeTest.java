@@ -225,6 +225,8 @@ public final class WillBeTest {
         Due.due("of several the least", x.most(), 2);
         x.pack(1, 3);
         Due.due("layers together", x.most(), 1);
+        x.pack(0, 7);
+        Due.due("the first yard", x.most(), 0);
     }
 
     private static void warmed() {
@@ -256,6 +258,9 @@ public final class WillBeTest {
         Due.due("sheet -1", x.warmed(-1, 0), Due.BAD);
         Due.due("sheet 4", x.warmed(4, 0), Due.BAD);
         Due.due("what -1", x.warmed(0, -1), Due.BAD);
+        for (int warm = 0; warm <= 20; warm++) {
+            warmedBy(warm);
+        }
         SnowOwed cold = new SnowOwed();
         cold.rule(1, 0);
         cold.yard(0, 0, 999);
@@ -270,6 +275,25 @@ public final class WillBeTest {
         }
         Due.due("the one that thaws most", cold.warmed(0, 0), best);
         Due.due("differences", cold.warmed(0, 1), 900 + 900 - draw % (best + 1) + 99999);
+    }
+
+    /** So many days are told that no other warm explains them as well. */
+    private static void warmedBy(int warm) {
+        SnowOwed x = new SnowOwed();
+        x.rule(1, 0);
+        x.yard(0, 0, 999);
+        x.pack(0, 900);
+        x.rule(0, warm);
+        x.sheet(3, 1, 24);
+        for (int k = 0; k < 24; k++) {
+            x.mark(3, k, x.behind(k, 0));
+        }
+        x.rule(0, 50);
+        Due.due("warmed by " + warm, x.warmed(3, 0), warm);
+        Due.due("warmed by " + warm, x.warmed(3, 1), 0);
+        x.mark(3, 23, Due.NONE);
+        x.mark(3, 22, x.ball(0) + 99);
+        Due.isTrue("the last places count", x.warmed(3, 1) > 0);
     }
 
     private static void fines() {

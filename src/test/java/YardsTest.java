@@ -174,6 +174,8 @@ public final class YardsTest {
         SnowOwed x = new SnowOwed();
         Due.due("deal 0", x.deal(0), Due.BAD);
         Due.due("deal 11", x.deal(11), Due.BAD);
+        Due.due("deal 1", new SnowOwed().deal(1), 1);
+        Due.due("deal 10", new SnowOwed().deal(10), 10);
         Due.due("seed", x.seed(-77), 1);
         Due.due("z", x.count(10), -77);
         Due.due("deal", x.deal(7), 7);
