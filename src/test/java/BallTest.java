@@ -299,6 +299,7 @@ public final class BallTest {
         }
         ten.days(1);
         Due.due("on ten yards", ten.count(6), 130);
+        Due.due("none of ten is broken", ten.count(5), 0);
     }
 
     private static void sizes() {
@@ -328,7 +329,7 @@ public final class BallTest {
         Due.due("days 101", x.days(101), Due.BAD);
         int z = x.count(10);
         for (int i = 0; i < 99; i++) {
-            x.days(100);
+            Due.due("without yards no gates", x.days(100), 0);
         }
         Due.due("without yards no draws", x.count(10), z);
         Due.due("the day", x.count(1), 9900);

@@ -112,6 +112,11 @@ public final class TextsTest {
         fault("siz w", 0);
         fault("sizes w", 0);
         fault("sizew", 0);
+        fault("sizea w", 0);
+        fault("sizez w", 0);
+        fault("xize w", 0);
+        fault("sixe w", 0);
+        fault("givf s", 0);
         fault("  Size w", 2);
         fault("7", 0);
         fault("(size w)", 0);
