@@ -124,15 +124,6 @@ public final class BallTest {
         Due.due("find 6", x.find(6), Due.BAD);
     }
 
-    /** A seed whose first draw has this rest. */
-    private static int seedFor(int rest, int by) {
-        int seed = 0;
-        while ((Due.drawn(seed) >>> 8) % by != rest) {
-            seed++;
-        }
-        return seed;
-    }
-
     private static void thawing() {
         SnowOwed x = new SnowOwed();
         x.rule(1, 0);
@@ -146,7 +137,7 @@ public final class BallTest {
         x.lose(2);
         x.rule(0, 9);
         x.at(1);
-        x.seed(seedFor(8, 10));
+        x.seed(Due.seedFor(8, 10));
         x.days(1);
         Due.due("weight", x.ball(0), 9);
         Due.due("gone", x.ball(4), 8);
@@ -156,19 +147,19 @@ public final class BallTest {
         Due.due("out where the ball was, not where it went", x.thing(1), 101);
         Due.due("out likewise", x.thing(2), 101);
         Due.due("went on", x.ball(2), 0);
-        x.seed(seedFor(3, 10));
+        x.seed(Due.seedFor(3, 10));
         x.days(1);
         Due.due("less", x.ball(0), 6);
         x.pack(1, 4);
-        x.seed(seedFor(3, 10));
+        x.seed(Due.seedFor(3, 10));
         x.days(1);
         Due.due("a kilo is a layer still", x.layer(1, 1), 1);
-        x.seed(seedFor(1, 10));
+        x.seed(Due.seedFor(1, 10));
         x.days(1);
         Due.due("no kilo is none", x.ball(3), 1);
         x.at(1);
         x.rule(0, 99);
-        x.seed(seedFor(99, 100));
+        x.seed(Due.seedFor(99, 100));
         x.days(1);
         Due.due("nothing is left", x.ball(0), 0);
         Due.due("no layer", x.ball(3), 0);
@@ -187,7 +178,7 @@ public final class BallTest {
         x.yard(5, 100, 999);
         x.pack(0, 50);
         x.rule(0, 9);
-        x.seed(seedFor(9, 10));
+        x.seed(Due.seedFor(9, 10));
         x.days(1);
         Due.due("half, cut", x.ball(0), 46);
         Due.due("straw gives nothing", x.told(0, 1), 100);

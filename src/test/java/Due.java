@@ -6,8 +6,12 @@ final class Due {
     static final int BAD = -1000000001, NO = -1000000002, FULL = -1000000003, NONE = -1000000005;
     static final int NOTHING = -1000000011, KIND = -1000000012, INDEX = -1000000013, SIZE = -1000000014;
 
+    static final int LEAST = Integer.MIN_VALUE, MOST = Integer.MAX_VALUE;
+
     private static int wrong = 0;
     private static int asked = 0;
+    private static String sentence = "";
+    private static int askedAhead = 0;
 
     private Due() {
     }
@@ -16,8 +20,15 @@ final class Due {
         asked++;
         if (got != want) {
             wrong++;
-            System.out.println(call + " answered " + got + ", due is " + want);
+            System.out.println(sentence + call + " answered " + got + ", due is " + want);
         }
+    }
+
+    /** What follows tests this sentence of the document: of its terms (0) or of a promise. */
+    static void says(int part, String quote) {
+        isTrue("a sentence has answers of its own", sentence.isEmpty() || asked > askedAhead);
+        askedAhead = asked;
+        sentence = (part == 0 ? "Terms" : "Promise " + part) + ", '" + quote + "': ";
     }
 
     static void isTrue(String what, boolean holds) {
@@ -53,6 +64,22 @@ final class Due {
     /** z behind one draw. */
     static int drawn(int z) {
         return z * 1103515245 + 12345;
+    }
+
+    /** A seed whose first draw has this rest. */
+    static int seedFor(int rest, int by) {
+        int seed = 0;
+        while ((drawn(seed) >>> 8) % by != rest) {
+            seed++;
+        }
+        return seed;
+    }
+
+    /** As many days as there can be; nothing else changes if there are no yards. */
+    static void toDay(SnowOwed x, int day) {
+        while (x.count(1) < day) {
+            x.days(Math.min(100, day - x.count(1)));
+        }
     }
 
     /** A village where nothing thaws and no snow falls, so that its days can be reckoned by hand. */
