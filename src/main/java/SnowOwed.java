@@ -929,20 +929,21 @@ public final class SnowOwed {
 
         void search(Village from, int n) {
             found = false;
-            branch(from, Math.min(n, LONGEST_WAY), 0, 0);
+            branch(this, from, Math.min(n, LONGEST_WAY), 0, 0);
         }
 
-        private void branch(Village from, int n, int depth, int moves) {
+        /** Static, for LANGUAGE.md lets only such a method call itself alone (rule 8). */
+        private static void branch(Paths paths, Village from, int n, int depth, int moves) {
             if (depth >= n || depth >= LONGEST_WAY) {
-                weigh(from, moves);
+                paths.weigh(from, moves);
                 return;
             }
-            Village next = thoughts[depth];
+            Village next = paths.thoughts[depth];
             for (int move = -1; move <= 1; move++) {
                 next.become(from);
                 next.move = move;
                 next.passDay();
-                branch(next, n, depth + 1, moves * 3 + move + 1);
+                branch(paths, next, n, depth + 1, moves * 3 + move + 1);
             }
         }
 

@@ -6,7 +6,9 @@ import java.lang.reflect.Modifier;
 import java.nio.file.Files;
 import java.nio.file.Path;
 import java.util.ArrayList;
+import java.util.LinkedHashMap;
 import java.util.List;
+import java.util.Map;
 import java.util.Set;
 import java.util.TreeSet;
 import java.util.regex.Matcher;
@@ -120,24 +122,51 @@ public final class LanguageTest {
             }
         }
         methodsAreShort(bare);
+        recursionIsPrivate(bare);
     }
 
-    /** A method begins at a line that ends in ") {" and stands in as deep as its closing brace. */
-    private static void methodsAreShort(String bare) {
+    /** By its first line, the lines of each method: it ends where a brace stands in as deep as that line. */
+    private static Map<String, String> methods(String bare) {
+        Map<String, String> all = new LinkedHashMap<>();
         String[] lines = bare.split("\n");
         Pattern head = Pattern.compile("^( {4}| {8})[a-zA-Z][^;=]*\\) \\{$");
-        int seen = 0;
         for (int i = 0; i < lines.length; i++) {
             Matcher m = head.matcher(lines[i]);
             if (m.find()) {
-                int end = i + 1;
-                while (end < lines.length && !lines[end].equals(m.group(1) + "}")) {
-                    end++;
+                StringBuilder body = new StringBuilder();
+                for (int k = i + 1; k < lines.length && !lines[k].equals(m.group(1) + "}"); k++) {
+                    body.append(lines[k]).append('\n');
                 }
-                Due.isTrue("sixty lines at most: " + lines[i].trim(), end - i < 60);
-                seen++;
+                all.put(i + " " + lines[i].trim(), body.toString());
             }
         }
-        Due.isTrue("methods were seen", seen > 60);
+        return all;
+    }
+
+    private static void methodsAreShort(String bare) {
+        Map<String, String> all = methods(bare);
+        all.forEach((head, body) -> Due.isTrue("sixty lines at most: " + head, body.split("\n").length < 60));
+        Due.isTrue("methods were seen", all.size() > 60);
+    }
+
+    /** Rule 8: what calls itself is private, and static unless it and another one call each other. */
+    private static void recursionIsPrivate(String bare) {
+        Map<String, String> all = methods(bare);
+        int seen = 0;
+        for (String one : all.keySet()) {
+            if (!calls(all.get(one), one)) {
+                continue;
+            }
+            seen++;
+            boolean withAnother = all.keySet().stream().anyMatch(other -> !other.equals(one)
+                && other.contains(" private ") && calls(all.get(one), other) && calls(all.get(other), one));
+            Due.isTrue("rule 8: " + one, one.contains(" private static ") || one.contains(" private ") && withAnother);
+        }
+        Due.isTrue("methods that call themselves were seen", seen > 0);
+    }
+
+    private static boolean calls(String body, String head) {
+        String name = head.substring(0, head.indexOf('(')).replaceAll(".* ", "");
+        return Pattern.compile("(?<![\\w.])" + name + "\\(").matcher(body).find();
     }
 }
